@@ -23,7 +23,10 @@ public final class StepperHearts {
     private static final int END_OFF = 4;
 
     private static final int HEART_COUNT = 5;
+    private static final int HEART_SWITCH = 0;
     private static final int HEART_JOINED = 2;
+    private static final int HEART_KEPT = 3;
+    private static final int HEART_TRACES = 4;
     private static final int SWITCH_PRICE = 6;
     private static final int ROUTINE_PRICE = 4;
 
@@ -44,8 +47,11 @@ public final class StepperHearts {
     private final int[] tape = new int[TAPE_ROOM];
     private final Reader reader = new Reader();
     private final Joins joins = new Joins();
+    private final Heart switchHeart = new PlainHeart(SWITCH_PRICE);
+    private final Heart routineHeart = new PlainHeart(ROUTINE_PRICE);
     private final JoinedHeart joinedHeart = new JoinedHeart(joins);
-    private final Heart[] hearts = new Heart[HEART_COUNT];
+    private final Heart keptHeart = new KeptHeart();
+    private final Heart traceHeart = new TraceHeart();
     private final Machine latest = new Machine();
     private final Machine trial = new Machine();
     private Program current = new Program();
@@ -57,11 +63,7 @@ public final class StepperHearts {
     private int latestTrouble = NOT_REFUSED;
 
     public StepperHearts() {
-        hearts[0] = new PlainHeart(SWITCH_PRICE);
-        hearts[1] = new PlainHeart(ROUTINE_PRICE);
-        hearts[HEART_JOINED] = joinedHeart;
-        hearts[3] = new KeptHeart();
-        hearts[4] = new TraceHeart();
+        // a new object is what its fields begin with
     }
 
     public int feed(int a, int b, int c, int d, int e) {
@@ -149,7 +151,7 @@ public final class StepperHearts {
         if (refusal != NOT_REFUSED) {
             return refuse(refusal);
         }
-        latest.go(current, hearts[heart], fuel, inputNumber);
+        latest.go(current, heartNumbered(heart), fuel, inputNumber);
         return accept(latest.ending);
     }
 
@@ -238,13 +240,13 @@ public final class StepperHearts {
     }
 
     public int cheapest(int fuel) {
-        int refusal = refusalOf(0, fuel);
+        int refusal = refusalOf(HEART_SWITCH, fuel);
         if (refusal != NOT_REFUSED) {
             return refuse(refusal);
         }
-        int best = 0;
-        int least = tryOut(0, fuel);
-        for (int heart = 1; heart < HEART_COUNT; heart++) {
+        int best = HEART_SWITCH;
+        int least = tryOut(HEART_SWITCH, fuel);
+        for (int heart = HEART_SWITCH + 1; heart < HEART_COUNT; heart++) {
             int price = tryOut(heart, fuel);
             if (price < least) {
                 least = price;
@@ -323,11 +325,23 @@ public final class StepperHearts {
     }
 
     private int tryOut(int heart, int fuel) {
-        if (heart < 0 || heart >= HEART_COUNT) {
-            return 0;
-        }
-        trial.go(current, hearts[heart], fuel, inputNumber);
+        trial.go(current, heartNumbered(heart), fuel, inputNumber);
         return trial.spent;
+    }
+
+    private Heart heartNumbered(int heart) {
+        switch (heart) {
+            case HEART_SWITCH:
+                return switchHeart;
+            case HEART_JOINED:
+                return joinedHeart;
+            case HEART_KEPT:
+                return keptHeart;
+            case HEART_TRACES:
+                return traceHeart;
+            default:
+                return routineHeart;
+        }
     }
 
     private static boolean isKind(int number) {
@@ -493,13 +507,13 @@ public final class StepperHearts {
                 if (placeOfMark(wordStart, wordEnd, into.size) != NONE) {
                     return fail(TWICE, wordStart);
                 }
-                keepMark(into.size);
+                keepMark(into.size, wordStart, wordEnd);
                 advance();
                 if (!readWord()) {
                     return false;
                 }
             } else {
-                keepNoMark(into.size);
+                keepMark(into.size, 0, 0);
             }
             return readOrder(into, marked);
         }
@@ -561,17 +575,11 @@ public final class StepperHearts {
             }
         }
 
-        private void keepMark(int place) {
+        /** A mark of no letters is like no word: it stands where there is none. */
+        private void keepMark(int place, int start, int end) {
             if (place >= 0 && place < MOST_ORDERS) {
-                markStarts[place] = wordStart;
-                markEnds[place] = wordEnd;
-            }
-        }
-
-        private void keepNoMark(int place) {
-            if (place >= 0 && place < MOST_ORDERS) {
-                markStarts[place] = 0;
-                markEnds[place] = 0;
+                markStarts[place] = start;
+                markEnds[place] = end;
             }
         }
 

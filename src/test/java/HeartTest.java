@@ -187,5 +187,11 @@ final class HeartTest {
         CHECK.due("gain", x.gain(9), 4);
         CHECK.due("better", x.better(), 13);
         CHECK.due("no run was made", x.told(0), -1);
+        Check.tell(x, "push 1; push 2; halt;");
+        CHECK.due("gain", x.gain(9), 4);
+        CHECK.due("the pair of the least number", x.better(), 0);
+        Check.tell(x, "dup; halt;");
+        CHECK.due("gain", x.gain(9), 4);
+        CHECK.due("the second is the last kind", x.better(), 214);
     }
 }

@@ -119,9 +119,8 @@ final class LanguageTest {
             }
             if (code.contains("new ")) {
                 boolean isField = code.matches("    (    )?private .* = new .*;");
-                boolean isHeart = code.matches("        hearts\\[\\w+\\] = new .*;");
                 boolean isThrow = code.matches("\\s+throw new NoSuchElementException\\(\"[a-z ]+\"\\);");
-                CHECK.isTrue("line " + (i + 1) + " makes nothing in a call", isField || isHeart || isThrow);
+                CHECK.isTrue("line " + (i + 1) + " makes nothing in a call", isField || isThrow);
             }
             if (methodFrom < 0 && code.matches("    (    )?[A-Za-z].*\\) (throws \\w+ )?\\{")) {
                 methodFrom = i;

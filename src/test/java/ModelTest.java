@@ -56,13 +56,15 @@ final class ModelTest {
     }
 
     private String text() {
-        switch (below(4)) {
+        switch (below(5)) {
             case 0:
                 return looseProgram();
             case 1:
                 return countingLoops(1 + below(3));
             case 2:
                 return tangledLoops();
+            case 3:
+                return tangledZeros();
             default:
                 return below(3) == 0 ? longLoop() : countingLoops(2);
         }
@@ -158,6 +160,22 @@ final class ModelTest {
             if (below(4) == 0) {
                 text.append("jump ").append((char) ('a' + below(marks))).append(";");
             }
+        }
+        text.append("jump a;");
+        return text.toString();
+    }
+
+    /** As tangled loops, but a zero stands at each mark: it takes what the way there left for it. */
+    private String tangledZeros() {
+        StringBuilder text = new StringBuilder();
+        int marks = 2 + below(4);
+        for (int i = 0; i < marks; i++) {
+            String ownMark = "" + (char) ('a' + i);
+            text.append(ownMark).append(":zero x").append(ownMark).append(";x").append(ownMark).append(":");
+            text.append("get 0;push ").append(1 + below(90)).append(";add;dup;dup;set 0;");
+            text.append("push ").append(1 + below(99)).append(";less;swap;");
+            text.append("push ").append(1 + below(999)).append(";mul;push ").append(1 + below(99)).append(";less;");
+            text.append("zero ").append((char) ('a' + below(marks))).append(";");
         }
         text.append("jump a;");
         return text.toString();

@@ -370,6 +370,9 @@ final class PromiseTest {
         Check.tell(x, "a: jump a;");
         x.run(0, 3);
         due("of one kind", x.most(), 1111);
+        Check.tell(x, "push 1; push 2;");
+        x.run(0, 3);
+        due("the pair of the least number, once", x.most(), 0);
     }
 
     private static void traces() {
