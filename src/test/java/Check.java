@@ -3,6 +3,7 @@ import java.util.NoSuchElementException;
 /** Counts and prints the answers that are not as due. */
 final class Check {
     private final String name;
+    private String sentence = "";
     private int asked = 0;
     private int wrong = 0;
 
@@ -10,12 +11,36 @@ final class Check {
         this.name = name;
     }
 
+    /** The document's words that the asks from here on hold the class to. */
+    void sentence(String words) {
+        sentence = " [" + words + "]";
+    }
+
     void due(String call, long got, long want) {
         asked++;
         if (got != want) {
             wrong++;
-            System.out.println(name + ": " + call + " answered " + got + ", due is " + want);
+            System.out.println(name + ": " + call + " answered " + got + ", due is " + want + sentence);
         }
+    }
+
+    /** A call that was refused by a number. */
+    void refused(String call, StepperHearts x, long got, int by) {
+        due(call, got, StepperHearts.NONE);
+        due("trouble() behind " + call, x.trouble(), by);
+    }
+
+    /** A call that wasn't refused. */
+    void taken(String call, StepperHearts x, long got, long want) {
+        due(call, got, want);
+        due("trouble() behind " + call, x.trouble(), 0);
+    }
+
+    /** A new object that has the text's program. */
+    StepperHearts told(String text) {
+        StepperHearts x = new StepperHearts();
+        isTrue("'" + text + "' is a program", tell(x, text) > 0);
+        return x;
     }
 
     void isTrue(String what, boolean holds) {

@@ -1,4 +1,6 @@
+import com.sun.management.ThreadMXBean;
 import java.io.IOException;
+import java.lang.management.ManagementFactory;
 import java.lang.reflect.Constructor;
 import java.lang.reflect.Field;
 import java.lang.reflect.Method;
@@ -22,14 +24,19 @@ final class LanguageTest {
         "int out(int) NoSuchElementException", "int pile(int) NoSuchElementException", "int cell(int)",
         "int did(int)", "int follows(int,int)", "int most()", "int traces()", "int trace(int)", "int cost(int,int)",
         "int cheapest(int)", "int gain(int)", "int better()", "int count(int)", "int trouble()");
-    private static final String[] RULED_OUT = {"->", "::", "@", "catch", "finally", "synchronized", "assert",
-        "instanceof", "ordinal", "getClass", "hashCode", "toString", "System.out", "Exact", "Random", "import java.io",
-        "import java.nio", "lambda", " goto ", "Thread", "nanoTime", "currentTime", "static {", "package "};
+    private static final String[] RULED_OUT = {"::", "finally", "synchronized", "assert ", "getClass", "hashCode",
+        "getMessage", "printStackTrace", "System.out", "System.err", "System.exit", "Exact(", "Random", "Thread", "nanoTime",
+        "currentTime", "static {", "package "};
+    private static final Set<String> IMPORTS = Set.of("import java.util.ArrayList;", "import java.util.Arrays;",
+        "import java.util.Iterator;", "import java.util.List;", "import java.util.NoSuchElementException;");
+    // a field or element of the room's 7.3 million takes 4 bytes at least, and other objects share it
+    private static final long MOST_BYTES_OF_AN_OBJECT = 4_000_000;
 
     public static void main(String[] args) throws IOException {
         face();
         members();
         source();
+        room();
         CHECK.end();
     }
 
@@ -82,12 +89,14 @@ final class LanguageTest {
         for (Class<?> inside : classes) {
             CHECK.isTrue(inside + " is static", Modifier.isStatic(inside.getModifiers()));
             CHECK.isTrue(inside + " isn't public", !Modifier.isPublic(inside.getModifiers()));
-            for (Method method : inside.getDeclaredMethods()) {
-                CHECK.isTrue(method + " has a name of its own", !names.contains(method.getName()));
-            }
         }
         classes.add(StepperHearts.class);
         for (Class<?> each : classes) {
+            for (Method method : each.getDeclaredMethods()) {
+                boolean isPrivate = Modifier.isPrivate(method.getModifiers());
+                CHECK.isTrue(method + " has a name of its own", !isPrivate || !names.contains(method.getName()));
+                CHECK.isTrue(method + " takes at most seven", method.getParameterCount() <= 7);
+            }
             int fields = 0;
             for (Field field : each.getDeclaredFields()) {
                 boolean isStatic = Modifier.isStatic(field.getModifiers());
@@ -114,13 +123,7 @@ final class LanguageTest {
                 CHECK.isTrue("line " + (i + 1) + " has plain signs", line.charAt(k) >= 32 && line.charAt(k) < 127);
             }
             if (code.startsWith("import ")) {
-                CHECK.isTrue(code, code.equals("import java.util.Arrays;")
-                    || code.equals("import java.util.NoSuchElementException;"));
-            }
-            if (code.contains("new ")) {
-                boolean isField = code.matches("    (    )?private .* = new .*;");
-                boolean isThrow = code.matches("\\s+throw new NoSuchElementException\\(\"[a-z ]+\"\\);");
-                CHECK.isTrue("line " + (i + 1) + " makes nothing in a call", isField || isThrow);
+                CHECK.isTrue(code, IMPORTS.contains(code));
             }
             if (methodFrom < 0 && code.matches("    (    )?[A-Za-z].*\\) (throws \\w+ )?\\{")) {
                 methodFrom = i;
@@ -130,5 +133,24 @@ final class LanguageTest {
                 methodFrom = -1;
             }
         }
+    }
+
+    /** Rule 12, and the room in which all calls of one run live: what an object's 512 dearest calls make is little. */
+    private static void room() {
+        ThreadMXBean threads = (ThreadMXBean) ManagementFactory.getThreadMXBean();
+        String loop = "l: push 1; drop; jump l;";
+        CHECK.told(loop).gain(5000);
+        long ahead = threads.getCurrentThreadAllocatedBytes();
+        StepperHearts x = CHECK.told(loop);
+        for (int call = 0; call < 500; call++) {
+            switch (call % 4) {
+                case 0 -> x.gain(5000);
+                case 1 -> x.cheapest(5000);
+                case 2 -> x.run(4, 5000);
+                default -> x.program(0);
+            }
+        }
+        long made = threads.getCurrentThreadAllocatedBytes() - ahead;
+        CHECK.isTrue("500 calls make " + made + " bytes", made <= MOST_BYTES_OF_AN_OBJECT);
     }
 }

@@ -8,6 +8,9 @@ final class ModelTest {
     private static final int[] ODD = {-1, 0, 1, 4, 5, 14, 15, 59, 60, 99, 100, 599, 600, 601, 5000, 5001,
         Integer.MAX_VALUE, Integer.MIN_VALUE, Integer.MIN_VALUE + 1, 32, 31, 7, 8};
 
+    private static final int CALLS_PROMISED = 512;
+    private static final int CALLS_OF_A_ROUND = 190;
+
     private final StepperHearts real = new StepperHearts();
     private final Model model = new Model();
     private final String name;
@@ -24,13 +27,13 @@ final class ModelTest {
     }
 
     public static void main(String[] args) {
-        int objects = args.length > 0 ? Integer.parseInt(args[0]) : 1500;
+        int objects = args.length > 0 ? Integer.parseInt(args[0]) : 2500;
         for (int number = 0; number < objects; number++) {
             new ModelTest(number).go();
         }
         System.out.println(programsRead + " programs, " + faultsSeen + " faults, " + tracesSeen + " traces");
         CHECK.isTrue("many programs were read", programsRead > objects);
-        CHECK.isTrue("many faults were met", faultsSeen > objects);
+        CHECK.isTrue("many faults were met", faultsSeen > objects / 2);
         CHECK.isTrue("many traces were seen", tracesSeen > objects);
         CHECK.end();
     }
@@ -47,10 +50,12 @@ final class ModelTest {
 
     private void go() {
         anyCalls(below(12));
-        for (int round = 0; round < 5; round++) {
+        while (calls < CALLS_PROMISED - CALLS_OF_A_ROUND) {
+            int ahead = calls;
             tellText(below(4) == 0 ? spoiled(text()) : text());
             anyCalls(20);
-            askAll();
+            askSome();
+            CHECK.isTrue("a round has at most " + CALLS_OF_A_ROUND + " calls", calls - ahead < CALLS_OF_A_ROUND);
         }
         same("trouble()", real.trouble(), model.trouble());
     }
@@ -223,7 +228,7 @@ final class ModelTest {
     }
 
     private void tellText(String text) {
-        if (real.count(2) > 0) {
+        if (model.count(2) > 0) {
             same("program(0)", real.program(0), model.program(0));
         }
         String padded = text + " ".repeat((20 - text.length() % 20) % 20);
@@ -239,8 +244,8 @@ final class ModelTest {
             same("trouble()", real.trouble(), model.trouble());
             same("fault()", real.fault(), model.fault());
             same("where()", real.where(), model.where());
-            programsRead += real.fault() == 0 ? 1 : 0;
-            faultsSeen += real.fault() != 0 ? 1 : 0;
+            programsRead += model.fault() == 0 ? 1 : 0;
+            faultsSeen += model.fault() != 0 ? 1 : 0;
         }
     }
 
@@ -270,6 +275,7 @@ final class ModelTest {
                 same("program(" + n + ")", real.program(n), model.program(n));
             }
             case 2 -> {
+                calls++;
                 real.input(a);
                 model.input(a);
             }
@@ -282,7 +288,7 @@ final class ModelTest {
             case 7 -> same("joined()", real.joined(), model.joined());
             case 8, 9, 10, 11 -> {
                 same("run(" + heart + "," + fuel + ")", real.run(heart, fuel), model.run(heart, fuel));
-                tracesSeen += Math.max(0, real.traces());
+                tracesSeen += Math.max(0, model.traces());
                 same("traces()", real.traces(), model.traces());
             }
             case 12 -> same("told(" + a + ")", real.told(a), model.told(a));
@@ -297,21 +303,23 @@ final class ModelTest {
         }
     }
 
-    private void askAll() {
+    private void askSome() {
         for (int what = -1; what < 7; what++) {
             same("told(" + what + ")", real.told(what), model.told(what));
         }
-        for (int i = -1; i < 62; i++) {
+        for (int i = -1; i < 62; i += 1 + below(8)) {
             same("out(" + i + ")", realOut(i), orGone(model.out(i)));
+        }
+        for (int i = -1; i < 34; i += 1 + below(6)) {
             same("pile(" + i + ")", realPile(i), orGone(model.pile(i)));
         }
-        for (int i = -1; i < 17; i++) {
+        for (int i = -1; i < 17; i += 1 + below(3)) {
             same("cell(" + i + ")", real.cell(i), model.cell(i));
             same("did(" + i + ")", real.did(i), model.did(i));
             int k = number(15);
             same("follows(" + i + "," + k + ")", real.follows(i, k), model.follows(i, k));
         }
-        for (int place = -1; place < 102; place++) {
+        for (int place = -1; place < 102; place += 1 + below(10)) {
             int what = below(5) - 1;
             same("order(" + place + "," + what + ")", real.order(place, what), model.order(place, what));
             same("trace(" + place + ")", real.trace(place), model.trace(place));
