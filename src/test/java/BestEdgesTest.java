@@ -341,26 +341,55 @@ final class BestEdgesTest {
 
     private static void troubleIsLeftByOthers() {
         CHECK.sentence("V. TROUBLE of the latest call that may be refused by one of these numbers");
-        StepperHearts x = new StepperHearts();
-        CHECK.refused("join(0, 15)", x, x.join(0, 15), 1);
-        x.feed(0, 0, 0, 0, 0);
-        x.fault();
-        x.where();
-        x.order(0, 0);
-        x.input(0);
-        x.part();
-        CHECK.noOut(x, 0);
-        CHECK.noPile(x, 0);
-        x.cell(0);
-        x.did(0);
-        x.follows(0, 0);
-        x.trace(0);
-        x.better();
-        x.count(9);
-        due("trouble()", x.trouble(), 1);
-        Check.feedText(x, " ".repeat(580));
-        x.join(0, 0);
-        due("feed beyond 600", x.feed(0, 0, 0, 0, 0), -1);
-        due("trouble() behind a feed, whose promise names no number", x.trouble(), 0);
+        for (int trouble = 0; trouble <= 5; trouble++) {
+            StepperHearts x = new StepperHearts();
+            makeTrouble(x, trouble);
+            for (int which = 0; which < 20; which++) {
+                callWithoutNumber(x, which);
+                due("trouble() behind " + which, x.trouble(), trouble);
+            }
+            for (int i = 0; i < 31; i++) {
+                due("feed", x.feed(0, 0, 0, 0, 0), i < 30 ? 20 * (i + 1) : -1);
+                due("trouble() behind a feed, whose promise names no number", x.trouble(), trouble);
+                due("where() behind a feed", x.where(), trouble == 3 ? 0 : -1);
+            }
+        }
+    }
+
+    private static void makeTrouble(StepperHearts x, int trouble) {
+        switch (trouble) {
+            case 0 -> due("join", x.join(0, 0), 1);
+            case 1 -> due("join", x.join(0, 15), -1);
+            case 2 -> due("join", Math.max(x.join(0, 0), 1) * x.join(0, 0), -1);
+            case 3 -> due("program", x.program(0), -1);
+            case 4 -> due("run", x.run(0, 1), -1);
+            default -> due("told", x.told(0), -1);
+        }
+        due("trouble()", x.trouble(), trouble);
+    }
+
+    private static void callWithoutNumber(StepperHearts x, int which) {
+        switch (which) {
+            case 0 -> x.fault();
+            case 1 -> x.where();
+            case 2 -> x.order(0, 0);
+            case 3 -> x.order(-1, 9);
+            case 4 -> x.input(MIN);
+            case 5 -> x.part();
+            case 6 -> CHECK.noOut(x, 0);
+            case 7 -> CHECK.noOut(x, MAX);
+            case 8 -> CHECK.noPile(x, 0);
+            case 9 -> CHECK.noPile(x, MIN);
+            case 10 -> x.cell(0);
+            case 11 -> x.cell(MAX);
+            case 12 -> x.did(0);
+            case 13 -> x.did(15);
+            case 14 -> x.follows(0, 0);
+            case 15 -> x.follows(15, -1);
+            case 16 -> x.trace(0);
+            case 17 -> x.better();
+            case 18 -> x.count(0);
+            default -> x.count(9);
+        }
     }
 }

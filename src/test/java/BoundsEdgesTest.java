@@ -1,3 +1,5 @@
+import java.util.NoSuchElementException;
+
 /** Term I, BOUNDS, and 'What it is': each sentence that names a boundary has a function of its own. */
 final class BoundsEdgesTest {
     private static final Check CHECK = new Check("BoundsEdgesTest");
@@ -9,6 +11,7 @@ final class BoundsEdgesTest {
         callsOfAnObject();
         feedsOfAnObject();
         joinsOfAnObject();
+        laterCallsAreFreeButEnd();
         ordersOfAProgram();
         numbersOnThePile();
         sumsGoRound();
@@ -68,6 +71,54 @@ final class BoundsEdgesTest {
             due("join, call " + call, x.join(pair / 15, pair % 15), call <= 10 ? call : -1);
         }
         due("count(1), call 512", x.count(1), 10);
+    }
+
+    private static void laterCallsAreFreeButEnd() {
+        CHECK.sentence("what later calls answer is free; rule 7: no call may ever throw by itself");
+        StepperHearts x = CHECK.told("l: get 0; push 1; add; dup; set 0; out; jump l;");
+        int[] odd = {0, 1, -1, 4, 7, 14, 15, 31, 32, 59, 60, 100, 600, 5000, 5001, MIN, MIN + 1, MAX, MAX - 1};
+        for (int times = 0; times < 3; times++) {
+            for (int a : odd) {
+                for (int b : odd) {
+                    x.run(a, b);
+                    x.cost(b, a);
+                    x.join(a, b);
+                    x.follows(a, b);
+                    x.order(a, b);
+                }
+                x.feed(a, a, a, a, a);
+                x.input(a);
+                x.told(a);
+                x.cell(a);
+                x.did(a);
+                x.trace(a);
+                x.count(a);
+                x.cheapest(a);
+                x.gain(a);
+                callThatMayThrow(x, a);
+            }
+            x.program(MAX);
+            x.program(MIN);
+            x.part();
+            x.program(0);
+            x.program(x.count(2));
+        }
+        due("fault()", x.fault() >= 0 && x.fault() <= 5 ? 1 : 0, 1);
+    }
+
+    private static void callThatMayThrow(StepperHearts x, int i) {
+        int thrown = 0;
+        try {
+            x.out(i);
+        } catch (NoSuchElementException e) {
+            thrown++;
+        }
+        try {
+            x.pile(i);
+        } catch (NoSuchElementException e) {
+            thrown++;
+        }
+        due("out and pile throw or don't", thrown >= (i < 0 ? 2 : 0) ? 1 : 0, 1);
     }
 
     private static void ordersOfAProgram() {

@@ -198,6 +198,13 @@ final class CallEdgesTest {
         due("where()", x.where(), 5);
         CHECK.taken("a MARK of a former one isn't TWICE", x, Check.tell(x, "a: out;"), 1);
         due("run", x.run(0, 9), 4);
+        // the same byte of THE TAPE, and the same place of the PROGRAM, but no MARK
+        CHECK.taken("a MARK at byte 5", x, Check.tell(x, "     a: out;"), 1);
+        CHECK.refused("a MARK of a former one is none", x, Check.tell(x, "jump a;"), 3);
+        CHECK.taken("a MARK at byte 5", x, Check.tell(x, "     a: out;"), 1);
+        CHECK.taken("a MARK of a former one isn't TWICE", x, Check.tell(x, "out; a: out;"), 2);
+        CHECK.refused("a WORD of a former one is none", x, Check.tell(x, "out; jump out;"), 3);
+        CHECK.refused("a letter of an ORDER is no MARK", x, Check.tell(x, "out; jump o;"), 3);
     }
 
     private static void faultOfTheLatestProgram() {

@@ -519,6 +519,16 @@ final class TextEdgesTest {
         bad("jump\n\n nay ;", UNKNOWN, 7);
         bad("out;".repeat(99) + "jump nay;", UNKNOWN, 401);
         good("jump nay; nay: out;", 2);
+        String[] rests = {";", ":", "7", "?", "a:", "a: ;", "a: 7", "out", "out 7", "push;", "push", "jump", "jump 7;", "jump;",
+            "zero :", "zero nix"};
+        int[] places = {0, 0, 0, 0, 2, 3, 3, 3, 4, 4, 4, 4, 5, 4, 6, 8};
+        for (int i = 0; i < rests.length; i++) {
+            bad("jump nay; " + rests[i], FORM, 10 + places[i]);
+        }
+        bad("jump nay; nix;", UNKNOWN, 10);
+        bad("jump nay; a: nix;", UNKNOWN, 13);
+        bad("jump nay; set 8", CELL, 14);
+        bad("jump nay; a: out; a: out;", TWICE, 18);
         StepperHearts x = good("jump e;" + "out;".repeat(98) + "e: jump e;", 100);
         CHECK.due("order(0, 1)", x.order(0, 1), 99);
         CHECK.due("order(99, 1)", x.order(99, 1), 99);
